@@ -5,6 +5,7 @@ public final class LeavingTest {
         withdraw(c);
         withdrawRefuses(c);
         servedAtOnceOrLate(c);
+        eachSenderGetsItsOwn(c);
         orderOfServing(c);
         tick(c);
         expiry(c);
@@ -73,6 +74,24 @@ public final class LeavingTest {
                 c.same("none is served now", box.value(3), 0);
                 c.same("its bribe is back", box.value(8), bribe);
             }
+        }
+    }
+
+    private static void eachSenderGetsItsOwn(Checks c) {
+        for (int sender = 0; sender < 8; sender++) {
+            PetitionBox box = new PetitionBox();
+            box.sendBribed(sender, 0, 30, 11);
+            box.sendBribed(sender, 0, 20, 23);
+            box.sendBribed((sender + 1) % 8, 4, 30, 41);
+            c.same("withdrawn", box.withdraw(0), 9);
+            box.pass(20);
+            c.same("served", box.serve(), 2);
+            for (int other = 0; other < 8; other++) {
+                int due = other == sender ? 9 + 23 : other == (sender + 1) % 8 ? 20 : 0;
+                c.same("returned(" + other + ")", box.returned(other), due);
+            }
+            c.same("all returned", box.value(7), 9 + 23 + 20);
+            c.same("all kept", box.value(6), 2 + 21);
         }
     }
 

@@ -9,6 +9,7 @@ public final class TextTest {
         syntaxErrors(c);
         prefixes(c);
         everyByte(c);
+        afterAnError(c);
         upToTheFirstThatThrows(c);
         oneSavedState(c);
         c.finish();
@@ -171,6 +172,20 @@ public final class TextTest {
                 }
             }
         }
+    }
+
+    private static void afterAnError(Checks c) {
+        PetitionBox box = new PetitionBox();
+        c.same("a text with an error", Checks.carryOut(box, "b00,9,9;t0;"), -19);
+        c.same("the same again", box.carryOut(), -19);
+        c.same("a text without one", Checks.carryOut(box, "p30,9;t2;"), 2);
+        c.same("its petition is plain", box.petition(0, 9), 0);
+        c.same("it has no bribe", box.petition(0, 6), 0);
+        c.same("another error", Checks.carryOut(box, "s;t"), -13);
+        box.append('3');
+        c.same("one byte later", box.carryOut(), -14);
+        box.append(';');
+        c.same("then it is good", box.carryOut(), 2);
     }
 
     private static void upToTheFirstThatThrows(Checks c) {
