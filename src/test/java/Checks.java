@@ -5,8 +5,34 @@ final class Checks {
         long answer();
     }
 
+    /** A call of a box with one argument left open. */
+    interface CallWith {
+        long answer(PetitionBox box, int value);
+    }
+
+    /** Makes a new box each time. */
+    interface Maker {
+        PetitionBox make();
+    }
+
     private int checked;
     private int wrong;
+    private String sentence = "";
+    private int checkedBeforeSentence;
+
+    /** Begins the test of one sentence of the document; a fault is told with it. */
+    void sentence(String words) {
+        endSentence();
+        sentence = words;
+        checkedBeforeSentence = checked;
+    }
+
+    private void endSentence() {
+        if (!sentence.isEmpty() && checked == checkedBeforeSentence) {
+            fail("nothing was checked");
+        }
+        sentence = "";
+    }
 
     void same(String what, long got, long due) {
         checked++;
@@ -22,16 +48,18 @@ final class Checks {
         }
     }
 
+    void differ(String what, long one, long other) {
+        checked++;
+        if (one == other) {
+            fail(what + " answered " + one + " both times");
+        }
+    }
+
     /** The call must throw exactly this exception, no subclass of it, and must change nothing. */
     void refuses(PetitionBox box, String what, Class<? extends RuntimeException> due, Call call) {
         checked++;
         long before = box.digest();
-        Class<?> thrown = null;
-        try {
-            call.answer();
-        } catch (RuntimeException e) {
-            thrown = e.getClass();
-        }
+        Class<?> thrown = thrownBy(call);
         if (thrown != due) {
             fail(what + " threw " + thrown + ", due is " + due);
         }
@@ -40,10 +68,42 @@ final class Checks {
         }
     }
 
+    private static Class<?> thrownBy(Call call) {
+        try {
+            call.answer();
+            return null;
+        } catch (RuntimeException e) {
+            return e.getClass();
+        }
+    }
+
+    /**
+     * The call must accept each value of the range, with a new box each time, and must refuse the
+     * values on both sides of it with exactly this exception.
+     */
+    void range(String what, int least, int greatest, Class<? extends RuntimeException> due,
+            Maker maker, CallWith call) {
+        for (int good = least; good <= greatest; good++) {
+            checked++;
+            PetitionBox box = maker.make();
+            int value = good;
+            Class<?> thrown = thrownBy(() -> call.answer(box, value));
+            if (thrown != null) {
+                fail(what + " with " + good + " threw " + thrown + ", due is an answer");
+            }
+        }
+        int[] wrongOnes = {Integer.MIN_VALUE, -1000000, least - 2, least - 1, greatest + 1,
+            greatest + 2, greatest + 256, greatest + 65536, 1000000, Integer.MAX_VALUE};
+        for (int bad : wrongOnes) {
+            PetitionBox box = maker.make();
+            refuses(box, what + " with " + bad, due, () -> call.answer(box, bad));
+        }
+    }
+
     void fail(String message) {
         wrong++;
         if (wrong <= 40) {
-            System.out.println(message);
+            System.out.println((sentence.isEmpty() ? "" : "[" + sentence + "] ") + message);
         }
     }
 
@@ -52,6 +112,7 @@ final class Checks {
     }
 
     void finish() {
+        endSentence();
         System.out.println(wrong == 0 ? checked + " answers as due" : wrong + " faults");
         if (wrong != 0) {
             System.exit(1);
