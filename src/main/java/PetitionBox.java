@@ -803,7 +803,7 @@ public final class PetitionBox {
                 oldest = (oldest + 1) % SAVED_LIMIT;
                 count--;
             }
-            State slot = ring[(oldest + count) % SAVED_LIMIT];
+            State slot = slotBehindOldest(count);
             if (slot != null) {
                 slot.copyFrom(state);
                 count++;
@@ -816,10 +816,15 @@ public final class PetitionBox {
                 return;
             }
             count--;
-            State slot = ring[(oldest + count) % SAVED_LIMIT];
+            State slot = slotBehindOldest(count);
             if (slot != null) {
                 state.copyFrom(slot);
             }
+        }
+
+        private State slotBehindOldest(int places) {
+            int slot = (oldest + places) % SAVED_LIMIT;
+            return slot >= 0 && slot < ring.length ? ring[slot] : null;
         }
     }
 

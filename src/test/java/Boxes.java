@@ -65,12 +65,12 @@ final class Boxes {
     static PetitionBox atTime(int time) {
         PetitionBox box = new PetitionBox();
         Checks.write(box, "t50;".repeat(25));
-        while (time - box.value(1) >= 1250) {
+        for (int i = 0; i < time / 1250; i++) {
             box.carryOut();
         }
         box.clearText();
-        while (box.value(1) < time) {
-            box.pass(Math.min(200, time - box.value(1)));
+        for (int left = time % 1250; left > 0; left -= 200) {
+            box.pass(Math.min(200, left));
         }
         return box;
     }

@@ -15,23 +15,39 @@ final class Checks {
         PetitionBox make();
     }
 
+    /** The test of one sentence of the document; it names the sentence first. */
+    interface Sentence {
+        void test(Checks c);
+    }
+
+    private static final int TOLD_FAULTS = 40;
+    private static final int TOLD_FAULTS_OF_SENTENCE = 3;
+
     private int checked;
     private int wrong;
     private String sentence = "";
-    private int checkedBeforeSentence;
+    private int wrongBeforeSentence;
 
-    /** Begins the test of one sentence of the document; a fault is told with it. */
-    void sentence(String words) {
-        endSentence();
-        sentence = words;
-        checkedBeforeSentence = checked;
+    /** Runs the tests one by one; an exception ends the one that it comes from, and no other. */
+    void sentences(Sentence... tests) {
+        for (Sentence each : tests) {
+            int checkedBefore = checked;
+            wrongBeforeSentence = wrong;
+            try {
+                each.test(this);
+            } catch (RuntimeException e) {
+                fail("ended with " + e);
+            }
+            if (sentence.isEmpty() || checked == checkedBefore) {
+                fail("no sentence is named, or nothing is checked");
+            }
+            sentence = "";
+        }
     }
 
-    private void endSentence() {
-        if (!sentence.isEmpty() && checked == checkedBeforeSentence) {
-            fail("nothing was checked");
-        }
-        sentence = "";
+    /** Names the sentence of the document that is tested; each fault is told with it. */
+    void sentence(String words) {
+        sentence = words;
     }
 
     void same(String what, long got, long due) {
@@ -102,8 +118,12 @@ final class Checks {
 
     void fail(String message) {
         wrong++;
-        if (wrong <= 40) {
-            System.out.println((sentence.isEmpty() ? "" : "[" + sentence + "] ") + message);
+        if (sentence.isEmpty()) {
+            if (wrong <= TOLD_FAULTS) {
+                System.out.println(message);
+            }
+        } else if (wrong - wrongBeforeSentence <= TOLD_FAULTS_OF_SENTENCE) {
+            System.out.println("[" + sentence + "] " + message);
         }
     }
 
@@ -112,7 +132,6 @@ final class Checks {
     }
 
     void finish() {
-        endSentence();
         System.out.println(wrong == 0 ? checked + " answers as due" : wrong + " faults");
         if (wrong != 0) {
             System.exit(1);

@@ -2,39 +2,40 @@
 public final class EdgesOfBoxTest {
     public static void main(String[] args) {
         Checks c = new Checks();
-        emptyBox(c);
-        atTheTimeZero(c);
-        nothingElse(c);
-        patienceRank(c);
-        patienceTicks(c);
-        patienceBoth(c);
-        previousPatience(c);
-        quotaRange(c);
-        previousQuota(c);
-        graceRange(c);
-        previousGrace(c);
-        sendRanges(c);
-        sendNumber(c);
-        sendState(c);
-        sendBoth(c);
-        sendBribedRanges(c);
-        sendBribedNumber(c);
-        sendBribedState(c);
-        sendBribedBoth(c);
-        sendJointRanges(c);
-        sendJointSame(c);
-        sendJointNumber(c);
-        sendJointState(c);
-        sendJointBoth(c);
-        withdrawReturns(c);
-        withdrawOneOfMany(c);
-        withdrawRefuses(c);
-        serveReturns(c);
-        serveRefuses(c);
-        passRange(c);
-        passReturns(c);
-        passTime(c);
-        passBoth(c);
+        c.sentences(
+                EdgesOfBoxTest::emptyBox,
+                EdgesOfBoxTest::atTheTimeZero,
+                EdgesOfBoxTest::nothingElse,
+                EdgesOfBoxTest::patienceRank,
+                EdgesOfBoxTest::patienceTicks,
+                EdgesOfBoxTest::patienceBoth,
+                EdgesOfBoxTest::previousPatience,
+                EdgesOfBoxTest::quotaRange,
+                EdgesOfBoxTest::previousQuota,
+                EdgesOfBoxTest::graceRange,
+                EdgesOfBoxTest::previousGrace,
+                EdgesOfBoxTest::sendRanges,
+                EdgesOfBoxTest::sendNumber,
+                EdgesOfBoxTest::sendState,
+                EdgesOfBoxTest::sendBoth,
+                EdgesOfBoxTest::sendBribedRanges,
+                EdgesOfBoxTest::sendBribedNumber,
+                EdgesOfBoxTest::sendBribedState,
+                EdgesOfBoxTest::sendBribedBoth,
+                EdgesOfBoxTest::sendJointRanges,
+                EdgesOfBoxTest::sendJointSame,
+                EdgesOfBoxTest::sendJointNumber,
+                EdgesOfBoxTest::sendJointState,
+                EdgesOfBoxTest::sendJointBoth,
+                EdgesOfBoxTest::withdrawReturns,
+                EdgesOfBoxTest::withdrawOneOfMany,
+                EdgesOfBoxTest::withdrawRefuses,
+                EdgesOfBoxTest::serveReturns,
+                EdgesOfBoxTest::serveRefuses,
+                EdgesOfBoxTest::passRange,
+                EdgesOfBoxTest::passReturns,
+                EdgesOfBoxTest::passTime,
+                EdgesOfBoxTest::passBoth);
         c.finish();
     }
 

@@ -7,40 +7,41 @@ public final class EdgesOfTermsTest {
 
     public static void main(String[] args) {
         Checks c = new Checks();
-        none(c);
-        ranks(c);
-        patience(c);
-        patienceInitially(c);
-        numbered(c);
-        sender(c);
-        bound(c);
-        bribe(c);
-        ranksOfABribe(c);
-        loudestRankOfABribe(c);
-        secondSender(c);
-        countsForBoth(c);
-        fortyPetitions(c);
-        quotaInitially(c);
-        fewerThanTheQuota(c);
-        eachOfItsSenders(c);
-        ascendingOrder(c);
-        ticksIncrease(c);
-        waitedAtLeastItsBound(c);
-        otherwise(c);
-        rankBelowFour(c);
-        atLeastThePatience(c);
-        oneRankLouder(c);
-        loudestFirst(c);
-        longestWaitNext(c);
-        lowestNumberNext(c);
-        nextByTheSameRule(c);
-        servedWithinTheGrace(c);
-        servedAfterTheGrace(c);
-        expiredBribe(c);
-        withdrawnBribe(c);
-        onlyBribedOnes(c);
-        putIntoTheLog(c);
-        sixteenEntries(c);
+        c.sentences(
+                EdgesOfTermsTest::none,
+                EdgesOfTermsTest::ranks,
+                EdgesOfTermsTest::patience,
+                EdgesOfTermsTest::patienceInitially,
+                EdgesOfTermsTest::numbered,
+                EdgesOfTermsTest::sender,
+                EdgesOfTermsTest::bound,
+                EdgesOfTermsTest::bribe,
+                EdgesOfTermsTest::ranksOfABribe,
+                EdgesOfTermsTest::loudestRankOfABribe,
+                EdgesOfTermsTest::secondSender,
+                EdgesOfTermsTest::countsForBoth,
+                EdgesOfTermsTest::fortyPetitions,
+                EdgesOfTermsTest::quotaInitially,
+                EdgesOfTermsTest::fewerThanTheQuota,
+                EdgesOfTermsTest::eachOfItsSenders,
+                EdgesOfTermsTest::ascendingOrder,
+                EdgesOfTermsTest::ticksIncrease,
+                EdgesOfTermsTest::waitedAtLeastItsBound,
+                EdgesOfTermsTest::otherwise,
+                EdgesOfTermsTest::rankBelowFour,
+                EdgesOfTermsTest::atLeastThePatience,
+                EdgesOfTermsTest::oneRankLouder,
+                EdgesOfTermsTest::loudestFirst,
+                EdgesOfTermsTest::longestWaitNext,
+                EdgesOfTermsTest::lowestNumberNext,
+                EdgesOfTermsTest::nextByTheSameRule,
+                EdgesOfTermsTest::servedWithinTheGrace,
+                EdgesOfTermsTest::servedAfterTheGrace,
+                EdgesOfTermsTest::expiredBribe,
+                EdgesOfTermsTest::withdrawnBribe,
+                EdgesOfTermsTest::onlyBribedOnes,
+                EdgesOfTermsTest::putIntoTheLog,
+                EdgesOfTermsTest::sixteenEntries);
         c.finish();
     }
 

@@ -2,41 +2,42 @@
 public final class EdgesOfTextTest {
     public static void main(String[] args) {
         Checks c = new Checks();
-        hundredBytes(c);
-        noOrders(c);
-        semicolon(c);
-        plainSender(c);
-        plainRank(c);
-        plainBound(c);
-        bribedSender(c);
-        bribedRank(c);
-        bribedBound(c);
-        bribe(c);
-        serveOrder(c);
-        passOrder(c);
-        noSpaces(c);
-        zerosInFront(c);
-        firstByteThatCannotStand(c);
-        digitTooMany(c);
-        endsTooEarly(c);
-        rangeFoundByWhatFollows(c);
-        rangeNotYetFound(c);
-        firstErrorCounts(c);
-        appendValues(c);
-        appendLength(c);
-        appendFull(c);
-        appendBoth(c);
-        clearTextLength(c);
-        clearTextNotUndoable(c);
-        upToTheFirstByTheQuota(c);
-        upToTheFirstByTheBox(c);
-        upToTheFirstByTheEmptyBox(c);
-        upToTheFirstByTheTime(c);
-        textStays(c);
-        oneSavedState(c);
-        orderCount(c);
-        errorPositions(c);
-        errorChangesNothing(c);
+        c.sentences(
+                EdgesOfTextTest::hundredBytes,
+                EdgesOfTextTest::noOrders,
+                EdgesOfTextTest::semicolon,
+                EdgesOfTextTest::plainSender,
+                EdgesOfTextTest::plainRank,
+                EdgesOfTextTest::plainBound,
+                EdgesOfTextTest::bribedSender,
+                EdgesOfTextTest::bribedRank,
+                EdgesOfTextTest::bribedBound,
+                EdgesOfTextTest::bribe,
+                EdgesOfTextTest::serveOrder,
+                EdgesOfTextTest::passOrder,
+                EdgesOfTextTest::noSpaces,
+                EdgesOfTextTest::zerosInFront,
+                EdgesOfTextTest::firstByteThatCannotStand,
+                EdgesOfTextTest::digitTooMany,
+                EdgesOfTextTest::endsTooEarly,
+                EdgesOfTextTest::rangeFoundByWhatFollows,
+                EdgesOfTextTest::rangeNotYetFound,
+                EdgesOfTextTest::firstErrorCounts,
+                EdgesOfTextTest::appendValues,
+                EdgesOfTextTest::appendLength,
+                EdgesOfTextTest::appendFull,
+                EdgesOfTextTest::appendBoth,
+                EdgesOfTextTest::clearTextLength,
+                EdgesOfTextTest::clearTextNotUndoable,
+                EdgesOfTextTest::upToTheFirstByTheQuota,
+                EdgesOfTextTest::upToTheFirstByTheBox,
+                EdgesOfTextTest::upToTheFirstByTheEmptyBox,
+                EdgesOfTextTest::upToTheFirstByTheTime,
+                EdgesOfTextTest::textStays,
+                EdgesOfTextTest::oneSavedState,
+                EdgesOfTextTest::orderCount,
+                EdgesOfTextTest::errorPositions,
+                EdgesOfTextTest::errorChangesNothing);
         c.finish();
     }
 

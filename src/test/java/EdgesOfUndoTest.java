@@ -10,26 +10,28 @@ public final class EdgesOfUndoTest {
 
     public static void main(String[] args) {
         Checks c = new Checks();
-        undoableCallsSave(c);
-        otherCallsDoNotSave(c);
-        evenIfNothingChanges(c);
-        atMostFour(c);
-        oldestIsDroppedFirst(c);
-        everything(c);
-        everythingOfFullBox(c);
-        exceptTheText(c);
-        refusedCallsChangeNothing(c);
-        refusedCallsOfFullBox(c);
-        refusedCallsDropNoSavedState(c);
-        listedFirst(c);
-        undoReturns(c);
-        undoRefuses(c);
-        undoIsNotUndoable(c);
-        digestOfNewBox(c);
-        digestOfSomeBox(c);
-        digestOfFullBox(c);
-        digestOfEmptiedBox(c);
-        digestOfEachValue(c);
+        c.sentences(
+                EdgesOfUndoTest::undoableCallsSave,
+                EdgesOfUndoTest::otherCallsDoNotSave,
+                EdgesOfUndoTest::evenIfNothingChanges,
+                EdgesOfUndoTest::atMostFour,
+                EdgesOfUndoTest::oldestIsDroppedFirst,
+                EdgesOfUndoTest::everything,
+                EdgesOfUndoTest::everythingOfFullBox,
+                EdgesOfUndoTest::exceptTheText,
+                EdgesOfUndoTest::refusedCallsChangeNothing,
+                EdgesOfUndoTest::refusedCallsOfFullBox,
+                EdgesOfUndoTest::refusedCallsDropNoSavedState,
+                EdgesOfUndoTest::listedFirst,
+                EdgesOfUndoTest::undoReturns,
+                EdgesOfUndoTest::undoRefuses,
+                EdgesOfUndoTest::undoIsNotUndoable,
+                EdgesOfUndoTest::digestOfNewBox,
+                EdgesOfUndoTest::digestOverflow,
+                EdgesOfUndoTest::digestOfSomeBox,
+                EdgesOfUndoTest::digestOfFullBox,
+                EdgesOfUndoTest::digestOfEmptiedBox,
+                EdgesOfUndoTest::digestOfEachValue);
         c.finish();
     }
 
@@ -181,13 +183,12 @@ public final class EdgesOfUndoTest {
         for (int call = 0; call < UNDOABLE_CALLS; call++) {
             PetitionBox box = busy();
             Checks.write(box, "p70,9;b61,1,75;s;t9;");
-            box.undo();
             long digest = box.digest();
             List<Long> before = answers(box);
             doUndoable(box, call);
-            c.differ("digest() after call " + call, box.digest(), digest + 1);
+            c.differ("digest() after call " + call, box.digest(), digest);
             c.same("undo()", box.undo(), 3);
-            c.same("digest() after undo() of call " + call, box.digest(), digest);
+            c.same("digest() after undo() of call " + call, box.digest(), digest - 1);
             c.same("all answers", answers(box).equals(before) ? 1 : 0, 1);
         }
         PetitionBox box = busy();
@@ -196,39 +197,47 @@ public final class EdgesOfUndoTest {
         c.same("the patience", box.setPatience(2, 1), 6);
     }
 
+    /** 40 petitions, numbers 20 to 59, and 16 entries, with 4 states saved. */
+    private static PetitionBox fullOfAll() {
+        PetitionBox box = Boxes.withQuota(10);
+        for (int number = 0; number < 20; number++) {
+            box.sendBribed(number % 8, number % 5, 200, number + 1);
+        }
+        for (int number = 0; number < 20; number += 2) {
+            box.withdraw(number);
+        }
+        for (int i = 0; i < 10; i++) {
+            box.serve();
+        }
+        for (int number = 20; number < 60; number++) {
+            box.sendBribed(number % 8, number % 5, 200, number);
+        }
+        Checks.write(box, "s;t50;p70,9;");
+        return box;
+    }
+
     private static void everythingOfFullBox(Checks c) {
         c.sentence("The saved state contains everything, of a full box and a full log too");
-        for (int call = 0; call < UNDOABLE_CALLS; call++) {
-            if (call >= 3 && call <= 5) {
-                continue;
-            }
-            PetitionBox box = Boxes.withQuota(10);
-            for (int number = 0; number < 20; number++) {
-                box.sendBribed(number % 8, 0, 200, 100);
-            }
-            for (int i = 0; i < 17; i++) {
-                box.serve();
-            }
-            box.withdraw(17);
-            for (int i = 0; i < 38; i++) {
-                box.sendBribed((i + 4) % 8, i % 5, 200, i + 1);
-            }
+        for (int call : new int[] {0, 1, 2, 7, 8, 9}) {
+            PetitionBox box = fullOfAll();
             c.same("in the box", box.value(0), 40);
-            Checks.write(box, "s;t50;");
-            box.withdraw(18);
-            box.undo();
-            box.withdraw(20);
-            box.undo();
+            c.same("entries", box.value(10), 16);
             long digest = box.digest();
-            if (call == 6) {
-                box.withdraw(40);
-            } else {
-                doUndoable(box, call);
-            }
-            c.differ("digest() after call " + call, box.digest(), digest + 1);
-            box.undo();
-            c.same("digest() after undo() of call " + call, box.digest(), digest);
+            doUndoable(box, call);
+            c.differ("digest() after call " + call, box.digest(), digest);
+            c.same("undo()", box.undo(), 3);
+            c.same("digest() after undo() of call " + call, box.digest(), digest - 1);
         }
+        PetitionBox refilled = fullOfAll();
+        long digest = refilled.digest();
+        refilled.serve();
+        refilled.sendJoint(0, 7, 4, 200);
+        refilled.withdraw(60);
+        refilled.send(1, 4, 1);
+        for (int left = 3; left >= 0; left--) {
+            c.same("undo()", refilled.undo(), left);
+        }
+        c.same("digest() before it was filled again", refilled.digest(), digest - 4);
     }
 
     private static void exceptTheText(Checks c) {
@@ -416,6 +425,15 @@ public final class EdgesOfUndoTest {
     private static void digestOfNewBox(Checks c) {
         c.sentence("P27: Start with h = 3659 and set h = 31 * h + v: of a new box");
         c.same("digest()", new PetitionBox().digest(), 4084242270684593879L);
+    }
+
+    private static void digestOverflow(Checks c) {
+        c.sentence("P27: Returns the hash, with the overflow of long arithmetic ignored.");
+        long[] due = {4084242270684593879L, -9060571728151099850L, -3758641653277241963L,
+            1543288421596615924L, 6845218496470473811L, -6299595502365219918L};
+        for (int length = 0; length < due.length; length++) {
+            c.same("with " + length + " bytes", Boxes.withText(length).digest(), due[length]);
+        }
     }
 
     private static void digestOfSomeBox(Checks c) {

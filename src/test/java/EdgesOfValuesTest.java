@@ -2,38 +2,39 @@
 public final class EdgesOfValuesTest {
     public static void main(String[] args) {
         Checks c = new Checks();
-        petitionSenders(c);
-        petitionRank(c);
-        petitionTicks(c);
-        petitionBound(c);
-        petitionBribe(c);
-        petitionServedBefore(c);
-        petitionKind(c);
-        petitionNumber(c);
-        petitionWhat(c);
-        petitionBoth(c);
-        peekPlaces(c);
-        peekRefuses(c);
-        sentByCounts(c);
-        sentByRange(c);
-        returnedSums(c);
-        returnedRange(c);
-        entryLatestFirst(c);
-        entryFields(c);
-        entryIndex(c);
-        entryWhat(c);
-        entryBoth(c);
-        valuesOfNewBox(c);
-        valuesOfFullBox(c);
-        valueCounts(c);
-        valueCoins(c);
-        valueLoudest(c);
-        valueEntries(c);
-        valueSettings(c);
-        valueServedWait(c);
-        valueRange(c);
-        ofRankCounts(c);
-        ofRankRange(c);
+        c.sentences(
+                EdgesOfValuesTest::petitionSenders,
+                EdgesOfValuesTest::petitionRank,
+                EdgesOfValuesTest::petitionTicks,
+                EdgesOfValuesTest::petitionBound,
+                EdgesOfValuesTest::petitionBribe,
+                EdgesOfValuesTest::petitionServedBefore,
+                EdgesOfValuesTest::petitionKind,
+                EdgesOfValuesTest::petitionNumber,
+                EdgesOfValuesTest::petitionWhat,
+                EdgesOfValuesTest::petitionBoth,
+                EdgesOfValuesTest::peekPlaces,
+                EdgesOfValuesTest::peekRefuses,
+                EdgesOfValuesTest::sentByCounts,
+                EdgesOfValuesTest::sentByRange,
+                EdgesOfValuesTest::returnedSums,
+                EdgesOfValuesTest::returnedRange,
+                EdgesOfValuesTest::entryLatestFirst,
+                EdgesOfValuesTest::entryFields,
+                EdgesOfValuesTest::entryIndex,
+                EdgesOfValuesTest::entryWhat,
+                EdgesOfValuesTest::entryBoth,
+                EdgesOfValuesTest::valuesOfNewBox,
+                EdgesOfValuesTest::valuesOfFullBox,
+                EdgesOfValuesTest::valueCounts,
+                EdgesOfValuesTest::valueCoins,
+                EdgesOfValuesTest::valueLoudest,
+                EdgesOfValuesTest::valueEntries,
+                EdgesOfValuesTest::valueSettings,
+                EdgesOfValuesTest::valueServedWait,
+                EdgesOfValuesTest::valueRange,
+                EdgesOfValuesTest::ofRankCounts,
+                EdgesOfValuesTest::ofRankRange);
         c.finish();
     }
 
@@ -446,16 +447,19 @@ public final class EdgesOfValuesTest {
 
     private static void valueServedWait(Checks c) {
         c.sentence("P16: 13 the sum of the ticks that all petitions served so far had waited");
-        PetitionBox box = Boxes.with(4, 4);
+        PetitionBox box = Boxes.with(5, 4);
         box.serve();
         c.same("of one that had not waited", box.value(13), 0);
-        box.pass(199);
-        box.serve();
-        c.same("of one that had waited the most", box.value(13), 199);
-        box.withdraw(2);
-        c.same("not of a withdrawn one", box.value(13), 199);
         box.pass(1);
-        c.same("not of an expired one", box.value(13), 199);
+        box.serve();
+        c.same("and one that had waited a tick", box.value(13), 1);
+        box.pass(198);
+        box.serve();
+        c.same("and one that had waited the most", box.value(13), 200);
+        box.withdraw(3);
+        c.same("not of a withdrawn one", box.value(13), 200);
+        box.pass(1);
+        c.same("not of an expired one", box.value(13), 200);
     }
 
     private static void valueRange(Checks c) {

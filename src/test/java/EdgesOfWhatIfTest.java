@@ -2,32 +2,33 @@
 public final class EdgesOfWhatIfTest {
     public static void main(String[] args) {
         Checks c = new Checks();
-        rankInNoTicks(c);
-        rankInSomeTicks(c);
-        rankInExpired(c);
-        rankInLoudest(c);
-        rankInNumber(c);
-        rankInTicks(c);
-        rankInBoth(c);
-        rankInLate(c);
-        firstToExpireOfNone(c);
-        firstToExpireOfSome(c);
-        firstToExpireLowest(c);
-        servedInAtOnce(c);
-        servedInOfMany(c);
-        servedInExpired(c);
-        servedInLouder(c);
-        servedInRefuses(c);
-        servedInLate(c);
-        plainLeads(c);
-        bribeLeads(c);
-        noneSuffices(c);
-        whateverTheQuota(c);
-        bribeToLeadRange(c);
-        meanOfNone(c);
-        meanOfSome(c);
-        meanOfServedOnly(c);
-        nothingIsDone(c);
+        c.sentences(
+                EdgesOfWhatIfTest::rankInNoTicks,
+                EdgesOfWhatIfTest::rankInSomeTicks,
+                EdgesOfWhatIfTest::rankInExpired,
+                EdgesOfWhatIfTest::rankInLoudest,
+                EdgesOfWhatIfTest::rankInNumber,
+                EdgesOfWhatIfTest::rankInTicks,
+                EdgesOfWhatIfTest::rankInBoth,
+                EdgesOfWhatIfTest::rankInLate,
+                EdgesOfWhatIfTest::firstToExpireOfNone,
+                EdgesOfWhatIfTest::firstToExpireOfSome,
+                EdgesOfWhatIfTest::firstToExpireLowest,
+                EdgesOfWhatIfTest::servedInAtOnce,
+                EdgesOfWhatIfTest::servedInOfMany,
+                EdgesOfWhatIfTest::servedInExpired,
+                EdgesOfWhatIfTest::servedInLouder,
+                EdgesOfWhatIfTest::servedInRefuses,
+                EdgesOfWhatIfTest::servedInLate,
+                EdgesOfWhatIfTest::plainLeads,
+                EdgesOfWhatIfTest::bribeLeads,
+                EdgesOfWhatIfTest::noneSuffices,
+                EdgesOfWhatIfTest::whateverTheQuota,
+                EdgesOfWhatIfTest::bribeToLeadRange,
+                EdgesOfWhatIfTest::meanOfNone,
+                EdgesOfWhatIfTest::meanOfSome,
+                EdgesOfWhatIfTest::meanOfServedOnly,
+                EdgesOfWhatIfTest::nothingIsDone);
         c.finish();
     }
 
