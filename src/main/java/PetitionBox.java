@@ -79,7 +79,7 @@ public final class PetitionBox {
 
     public int setPatience(int rank, int ticks)
             throws IndexOutOfBoundsException, IllegalArgumentException {
-        if (rank < 0 || rank >= LOUDEST) {
+        if (rank < 0 || rank >= now.patience.length) {
             throw new IndexOutOfBoundsException("no such rank with a patience");
         }
         checkRange(ticks, 1, PATIENCE_LIMIT);
@@ -417,12 +417,17 @@ public final class PetitionBox {
             if (row < 0 || row >= count || column < 0 || column >= PETITION_COLUMNS) {
                 return NONE;
             }
-            return cells[row * PETITION_COLUMNS + column];
+            int cell = row * PETITION_COLUMNS + column;
+            return cell >= 0 && cell < cells.length ? cells[cell] : NONE;
         }
 
         void set(int row, int column, int value) {
-            if (row >= 0 && row < count && column >= 0 && column < PETITION_COLUMNS) {
-                cells[row * PETITION_COLUMNS + column] = value;
+            if (row < 0 || row >= count || column < 0 || column >= PETITION_COLUMNS) {
+                return;
+            }
+            int cell = row * PETITION_COLUMNS + column;
+            if (cell >= 0 && cell < cells.length) {
+                cells[cell] = value;
             }
         }
 
@@ -440,7 +445,7 @@ public final class PetitionBox {
         }
 
         void removeRow(int row) {
-            if (row < 0 || row >= count) {
+            if (row < 0 || row >= count || count > BOX_LIMIT) {
                 return;
             }
             int behind = (row + 1) * PETITION_COLUMNS;
@@ -518,7 +523,7 @@ public final class PetitionBox {
         void arrange(int[] rowAtPlace) {
             for (int row = 0; row < count; row++) {
                 int place = countBefore(row);
-                if (place < rowAtPlace.length) {
+                if (place >= 0 && place < rowAtPlace.length) {
                     rowAtPlace[place] = row;
                 }
             }
@@ -575,7 +580,8 @@ public final class PetitionBox {
             if (index < 0 || index >= count || column < 0 || column >= LOG_COLUMNS) {
                 return NONE;
             }
-            return cells[index * LOG_COLUMNS + column];
+            int cell = index * LOG_COLUMNS + column;
+            return cell >= 0 && cell < cells.length ? cells[cell] : NONE;
         }
 
         void add(int number, int way, int waited, int givenBack, int rank) {
